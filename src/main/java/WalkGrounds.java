@@ -732,7 +732,7 @@ public final class WalkGrounds {
             range = ground == CUBES ? 12 : MOST_COUNTED_STEPS;
             side = 2 * range + 1;
             taken = new boolean[ground == CUBES ? side * side * side : side * side];
-            walkCounts[0] = 1;
+            put(walkCounts, 0, 1);
             for (int n = 0; n < formCounts.length; n++) {
                 formCounts[n] = NONE;
             }

@@ -409,6 +409,12 @@ public final class WalksTest {
         sixes.walk(2);
         lay(sixes, 1, 1, 1);
         due("SIXES as they are", sixes.alike(0, 1), 0);
+        sixes.walk(2);
+        lay(sixes, 2, 0, 0);
+        due("SIXES, the same steps", sixes.alike(0, 2), 1);
+        sixes.back(0, 1);
+        sixes.back(1, 1);
+        due("SIXES, another first step", sixes.alike(0, 1), 0);
     }
 
     private static void badWalks() {
