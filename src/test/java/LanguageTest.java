@@ -70,6 +70,10 @@ public final class LanguageTest {
         }
         CHECK.due("the public constants as told", constants.equals(
             new TreeSet<>(List.of("NONE", "BAD", "NO", "FULL", "SPENT"))) ? 1 : 0, 1);
+        long[] values = {WalkGrounds.NONE, WalkGrounds.BAD, WalkGrounds.NO, WalkGrounds.FULL, WalkGrounds.SPENT};
+        for (int i = 0; i < values.length; i++) {
+            CHECK.due("the constant " + i, values[i], -1 - i);
+        }
         CHECK.due("public constructors", WalkGrounds.class.getConstructors().length, 1);
         CHECK.due("final", Modifier.isFinal(WalkGrounds.class.getModifiers()) ? 1 : 0, 1);
     }
