@@ -658,6 +658,8 @@ public final class WalkEdgesTest {
     private static void formIsTheLeast() {
         formIs(SQUARES, new int[] {1, 0, 0}, 0, 0, 1);
         formIs(SQUARES, new int[] {3, 3, 2}, 0, 0, 1);
+        // Going back, and by no TURN but the first.
+        formIs(SQUARES, new int[] {3, 2, 2}, 0, 0, 1);
         formIs(SQUARES, new int[] {0, 1, 2, 2}, 0, 0, 1, 2);
         formIs(SQUARES, new int[] {2, 3, 2}, 0, 1, 0);
         formIs(THIRDS, new int[] {5, 3}, 0, 2);
@@ -701,6 +703,7 @@ public final class WalkEdgesTest {
             NO);
         WalkGrounds x = Made.and(Made.walk(SIXES, 0, 2), SIXES, 2, 1);
         due("SIXES, one going back", x.alike(0, 1), 0);
+        due("SIXES, the first step another", Made.and(Made.walk(SIXES, 0, 2), SIXES, 1, 2).alike(0, 1), 0);
     }
 
     /** "BAD": no WALK has the number; ahead of NO, of FULL and of NONE */
