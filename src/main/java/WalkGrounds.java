@@ -732,7 +732,10 @@ public final class WalkGrounds {
             range = ground == CUBES ? 12 : MOST_COUNTED_STEPS;
             side = 2 * range + 1;
             taken = new boolean[ground == CUBES ? side * side * side : side * side];
-            put(walkCounts, 0, 1);
+            for (int n = 0; n < walkCounts.length; n++) {
+                // Of no steps there is one WALK.
+                walkCounts[n] = n == 0 ? 1 : 0;
+            }
             for (int n = 0; n < formCounts.length; n++) {
                 formCounts[n] = NONE;
             }
